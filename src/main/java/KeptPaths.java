@@ -297,7 +297,13 @@ public final class KeptPaths {
             // rounds as nodes are enough.
             int improved = 1 << start;
             for (int round = 0; round < net.nodes && improved != 0; round++) {
-                improved = goOnFrom(improved, net);
+                int goOnFrom = improved;
+                improved = 0;
+                for (int u = 0; u < net.nodes; u++) {
+                    if ((goOnFrom >> u & 1) != 0) {
+                        improved |= followArcs(u, net);
+                    }
+                }
             }
             for (int u = 0; u < net.nodes; u++) {
                 if (reaches(u)) {
@@ -306,17 +312,7 @@ public final class KeptPaths {
             }
         }
 
-        /** Takes nodes as bits, and answers those to which a better way was found, as bits. */
-        private int goOnFrom(int nodes, Net net) {
-            int improved = 0;
-            for (int u = 0; u < net.nodes; u++) {
-                if ((nodes >> u & 1) != 0) {
-                    improved |= followArcs(u, net);
-                }
-            }
-            return improved;
-        }
-
+        /** Answers the nodes to which a better way was found, as bits. */
         private int followArcs(int u, Net net) {
             int improved = 0;
             for (int v = 0; v < net.nodes; v++) {
@@ -331,7 +327,7 @@ public final class KeptPaths {
         }
 
         private boolean isBetter(int v, int distance, int hopCount) {
-            return !reaches(v) || distance < distances[v]
+            return distances[v] == NONE || distance < distances[v]
                     || distance == distances[v] && hopCount < hopCounts[v];
         }
 

@@ -13,7 +13,7 @@ public final class ModelTests {
     private static int wrong = 0;
 
     public static void main(String[] args) {
-        for (int run = 0; run < 900 && wrong == 0; run++) {
+        for (int run = 0; run < 600 && wrong == 0; run++) {
             oneRun(run);
         }
         for (int run = 0; run < 20 && wrong == 0; run++) {
@@ -43,15 +43,20 @@ public final class ModelTests {
     }
 
     private static void oneRun(int seed) {
-        Random random = new Random(seed);
+        // Seeds that follow one another begin alike, so they are spread.
+        Random random = new Random(seed * 0x9E3779B97F4A7C15L);
         Habits habits = new Habits(random);
         KeptPaths x = new KeptPaths();
         Model model = new Model();
         List<String> told = new ArrayList<>();
         int[] call = new int[4];
-        int calls = 0;
+        int calls = habits.nodes + 3;
+        for (int i = 0; i < calls; i++) {
+            set(call, i < habits.nodes ? 0 : 1, i - habits.nodes, random.nextInt(habits.nodes), 0);
+            same(x, model, call, told, seed);
+        }
         while (calls < CALLS && wrong == 0) {
-            chooseCall(call, calls, random, habits);
+            chooseCall(call, random, habits);
             same(x, model, call, told, seed);
             calls++;
             if (call[0] <= 8 && random.nextInt(4) == 0) {
@@ -75,15 +80,11 @@ public final class ModelTests {
         call[3] = c;
     }
 
-    private static void chooseCall(int[] call, int calls, Random random, Habits habits) {
+    private static void chooseCall(int[] call, Random random, Habits habits) {
         int n = habits.nodes;
         int a = random.nextInt(n);
-        int b = random.nextInt(n);
+        int b = random.nextInt(20) == 0 ? a : (a + 1 + random.nextInt(n - 1)) % n;
         int length = habits.least + random.nextInt(habits.span);
-        if (calls < n + 3) {
-            set(call, calls < n ? 0 : 1, calls - n, b, 0);
-            return;
-        }
         if (random.nextInt(12) < habits.wrongInputs) {
             int[] odd = {-2, -1, 3, 24, n, 30, 1001, -1001, Integer.MIN_VALUE, Integer.MAX_VALUE};
             set(call, random.nextInt(16), random.nextInt(3), a, random.nextInt(n));

@@ -77,6 +77,13 @@ public final class PromiseTests {
         due("new: ring(0)", x.ring(0), BAD);
         due("new: undo", x.undo(), NONE);
         due("new: arc", x.arc(0, 1), BAD);
+        KeptPaths y = withNodes(1);
+        for (int k = 0; k < 3; k++) {
+            due("new: no source, distance", y.distance(k, 0), NONE);
+            due("new: no source, hops", y.hops(k, 0), NONE);
+            due("new: no source, parent", y.parent(k, 0), NONE);
+            due("new: no source, way", y.way(k, 0, -1), NONE);
+        }
     }
 
     private static void promise2Node() {
@@ -484,10 +491,23 @@ public final class PromiseTests {
         x.put(0, 3, 3);
         due("hops: the fewest arcs of the least ways", x.hops(0, 3), 1);
         due("hops: affected without the distance", x.affected(0), 8);
+        due("hops: the way, too", x.way(0, 3, -1), 2);
         due("hops: none told", x.hops(1, 0), NONE);
         x.source(1, 3);
         due("hops: not reached", x.hops(1, 0), NONE);
         badBySourceAndNode(x, 1);
+
+        // A way as long, with one arc less, comes behind one that is settled already.
+        KeptPaths y = chain(5, 1);
+        y.put(1, 4, 3);
+        due("hops: one arc less than two", y.hops(0, 4), 2);
+        y.put(0, 3, 3);
+        due("hops: as many", y.hops(0, 4), 2);
+        due("hops: the least parent of as many", y.parent(0, 4), 1);
+        y.put(1, 3, 2);
+        due("hops: not more", y.hops(0, 3), 1);
+        y.take(0, 3);
+        due("hops: the next fewest", y.hops(0, 3), 2);
     }
 
     private static void promise12Parent() {
@@ -668,6 +688,14 @@ public final class PromiseTests {
         due("ring: the latest", x.ring(0), 0);
         due("ring: the latest", x.ring(1), 1);
         due("ring: no more of the one before", x.ring(2), BAD);
+
+        KeptPaths w = chain(24, 1);
+        due("ring: refused", w.put(23, 0, -24), REFUSED);
+        due("ring: of all nodes", w.ring(-1), 24);
+        for (int i = 0; i < 24; i++) {
+            due("ring: of all nodes, " + i, w.ring(i), i);
+        }
+        due("ring: of all nodes, no more", w.ring(24), BAD);
 
         // Two least ways back with as many arcs: the least parents; one with fewer arcs goes ahead.
         KeptPaths y = withNodes(5);
