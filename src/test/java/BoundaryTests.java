@@ -130,6 +130,10 @@ public final class BoundaryTests {
                 nodes(5), "source(0, 0) = -1; put(0, 1, 0); put(1, 2, 0); put(2, 3, 0); put(3, 4, 0)",
                 "hops(0, 4) = 4; put(0, 3, 0) = NONE; hops(0, 3) = 1; hops(0, 4) = 2; way(0, 4, 1) = 3",
                 "put(0, 4, 1) = NONE; hops(0, 4) = 2; put(0, 4, 0) = 1; hops(0, 4) = 1");
+        run("HOPS: the fewest ARCS, where 3 would do as well as 2, and a WAY with 1 is longer",
+                nodes(5), "source(0, 0) = -1; put(0, 1, 1); put(0, 2, 5); put(1, 2, 1); put(2, 3, 1); put(0, 4, 2); put(4, 3, 2)",
+                "hops(0, 3) = 3; parent(0, 3) = 2; put(4, 3, 1) = 2; hops(0, 3) = 2; parent(0, 3) = 4; distance(0, 3) = 3",
+                "put(0, 3, 4) = NONE; hops(0, 3) = 2; put(4, 3, 0) = 1; distance(0, 3) = 2; parent(0, 3) = 4");
         run("A NODE to which there is no WAY has none of these",
                 chain(3, 1), "source(0, 1) = -1; distance(0, 0) = NONE; hops(0, 0) = NONE; parent(0, 0) = NONE",
                 "way(0, 0, -1) = NONE; way(0, 0, 0) = NONE; distance(0, 2) = 1; take(1, 2) = 1",
